@@ -73,6 +73,16 @@ public final class PairsTest {
         CHECK.due("first of several partners", x.partner(1), 2);
         CHECK.due("first of several strong", x.strong(0), 2);
         CHECK.due("first of several weak", x.weak(1), 0);
+        x.grip(2, 30);
+        x.grip(3, 30);
+        CHECK.due("the greatest grip alone, weak", x.weak(0), 2);
+        for (int man = 0; man < 4; man++) {
+            x.grip(man, 1);
+        }
+        CHECK.due("the least grip alone, strong", x.strong(0), 2);
+        CHECK.due("the least hold alone, pair", x.pair(), 20);
+        CHECK.due("the least hold alone, partner", x.partner(3), 0);
+        CHECK.due("the least hold alone, fair", x.fair(), 1);
         CHECK.due("first of several ways", x.matched(2), 0);
         CHECK.due("first of several ways", x.matched(1), 3);
     }

@@ -53,6 +53,7 @@ public final class SlotsTest {
         CHECK.due("too long for 15", x.cut(0, 15), -1);
         CHECK.due("0 and 4", x.cut(0, 17), 1);
         CHECK.due("0 and 4", x.cut(0, 16), 2);
+        x.write(0, 0, 3);
         x.row(0, 0, 2);
         CHECK.due("all 0 again", x.cut(0, 2), 1);
         x.row(1, 2, 0);

@@ -104,12 +104,13 @@ public final class TextTest {
     }
 
     private static void emptyText() {
-        WristTreaty x = Check.of(FIRST + MAN);
-        CHECK.due("count(8)", x.count(8), 2);
+        WristTreaty x = Check.of(FIRST + MAN + CLAUSE + WIND + "pot 7;");
+        CHECK.due("count(8)", x.count(8), 5);
         CHECK.due("push", x.push(0, 1), 1);
         CHECK.due("empty gorge()", x.gorge(), 0);
-        CHECK.due("no men", x.count(4), 0);
-        CHECK.due("no acts", x.count(7), 0);
+        for (int what = 0; what <= 10; what++) {
+            CHECK.due("none, count(" + what + ")", x.count(what), 0);
+        }
         CHECK.due("no gorge", x.start(0), -2);
         CHECK.due("man", x.man(0, 0), -2);
         Check.read(x, FIRST);
@@ -131,6 +132,8 @@ public final class TextTest {
         fault("gorge far 4 far 6 odds 2;" + (char) 233, 1, 25);
         fault("gorge far 4 far 6 odds 2; " + (char) 128, 1, 26);
         fault("gorge far 4 far 6 odds -2;", 1, 23);
+        fault("gorge far 4 far 6 odds 2:", 1, 24);
+        fault("gorge far 4 far 6 odds 2 , ", 1, 25);
         fault("gorgefar 4 far 6 odds 2;", 1, 0);
         fault("gorg", 1, 0);
         fault("gorge far 99999999999999999999 far 6 odds 2;", 2, 10);
