@@ -106,9 +106,9 @@ public final class WristTreaty {
             return NO_SUCH;
         }
         switch (what) {
-            case 0: return gorge.sides[man];
-            case 1: return gorge.grips[man];
-            case 2: return gorge.wits[man];
+            case 0: return gorge.sideOf(man);
+            case 1: return gorge.gripOf(man);
+            case 2: return gorge.witsOf(man);
             default: return NO_SUCH;
         }
     }
@@ -118,9 +118,9 @@ public final class WristTreaty {
             return NO_WORTH;
         }
         switch (what) {
-            case 0: return gorge.says[clause];
-            case 1: return gorge.gives0[clause];
-            case 2: return gorge.gives1[clause];
+            case 0: return gorge.lengthOf(clause);
+            case 1: return gorge.giftOf(clause, 0);
+            case 2: return gorge.giftOf(clause, 1);
             default: return NO_WORTH;
         }
     }
@@ -239,7 +239,7 @@ public final class WristTreaty {
         int best = NONE;
         int greatest = 0;
         for (int man = 0; man < gorge.men; man++) {
-            int other = gorge.sides[man] == 0 ? gorge.bestPartner(man) : NONE;
+            int other = gorge.sideOf(man) == 0 ? gorge.bestPartner(man) : NONE;
             if (other != NONE && gorge.holdOrRefusal(man, other) > greatest) {
                 greatest = gorge.holdOrRefusal(man, other);
                 best = 10 * man + other;
@@ -259,9 +259,9 @@ public final class WristTreaty {
         int best = NONE;
         int greatest = 0;
         for (int man = 0; man < gorge.men; man++) {
-            if (gorge.sides[man] == side && gorge.grips[man] > greatest) {
+            if (gorge.sideOf(man) == side && gorge.gripOf(man) > greatest) {
                 best = man;
-                greatest = gorge.grips[man];
+                greatest = gorge.gripOf(man);
             }
         }
         return best;
@@ -274,9 +274,9 @@ public final class WristTreaty {
         int best = NONE;
         int smallest = MOST_GRIP + 1;
         for (int man = 0; man < gorge.men; man++) {
-            if (gorge.sides[man] == side && gorge.grips[man] < smallest) {
+            if (gorge.sideOf(man) == side && gorge.gripOf(man) < smallest) {
                 best = man;
-                smallest = gorge.grips[man];
+                smallest = gorge.gripOf(man);
             }
         }
         return best;
@@ -295,7 +295,7 @@ public final class WristTreaty {
             return NO_SUCH;
         }
         pairing.settle();
-        return pairing.settled[man];
+        return pairing.partnerOf(man);
     }
 
     public int loners() {
@@ -305,7 +305,7 @@ public final class WristTreaty {
         pairing.settle();
         int alone = 0;
         for (int man = 0; man < gorge.men; man++) {
-            if (pairing.settled[man] == NONE) {
+            if (pairing.partnerOf(man) == NONE) {
                 alone |= 1 << man;
             }
         }
@@ -614,10 +614,10 @@ public final class WristTreaty {
             return NO_SUCH;
         }
         if (!evening.isHolding() || evening.isOver() || evening.hasSigned(clause)
-                || gorge.says[clause] > evening.left) {
+                || gorge.lengthOf(clause) > evening.left) {
             return REFUSED;
         }
-        evening.putName(clause, gorge.says[clause]);
+        evening.putName(clause, gorge.lengthOf(clause));
         return evening.left;
     }
 
@@ -685,7 +685,7 @@ public final class WristTreaty {
         }
         int whole = 0;
         for (int i = 0; i < n; i++) {
-            if (beatsDrawn(seed + i, held) >= gorge.says[clause]) {
+            if (beatsDrawn(seed + i, held) >= gorge.lengthOf(clause)) {
                 whole++;
             }
         }
@@ -699,8 +699,8 @@ public final class WristTreaty {
         if (evening.acts > 0) {
             return REFUSED;
         }
-        int before = gorge.grips[man];
-        gorge.grips[man] = n;
+        int before = gorge.gripOf(man);
+        gorge.setGrip(man, n);
         return before;
     }
 
@@ -765,7 +765,7 @@ public final class WristTreaty {
         if (slots.isBare(slot)) {
             return NOTHING;
         }
-        if (!isWithin(i, 0, slots.sizes[slot] - 1)) {
+        if (!slots.hasPart(slot, i, 1)) {
             return BEYOND;
         }
         slots.put(slot, i, v);
@@ -779,7 +779,7 @@ public final class WristTreaty {
         if (slots.isBare(slot) || slots.isBare(to)) {
             return NOTHING;
         }
-        if (slots.widths[slot] != slots.widths[to]) {
+        if (slots.widthOf(slot) != slots.widthOf(to)) {
             return UNLIKE;
         }
         if (!slots.hasPart(slot, i, n) || !slots.hasPart(to, k, n)) {
@@ -904,25 +904,24 @@ public final class WristTreaty {
 
     /** A gorge as its text tells it; without lines there is none. */
     private static final class Gorge {
-        final int[] fars = new int[2];
+        private final int[] fars = new int[2];
         int odds;
         int pot;
         int lines;
         int men;
         int clauses;
         int winds;
-        final int[] sides = new int[MOST_MEN];
-        final int[] grips = new int[MOST_MEN];
-        final int[] wits = new int[MOST_MEN];
-        final int[] says = new int[MOST_CLAUSES];
-        final int[] gives0 = new int[MOST_CLAUSES];
-        final int[] gives1 = new int[MOST_CLAUSES];
-        final int[] froms = new int[MOST_WINDS];
-        final int[] tos = new int[MOST_WINDS];
+        private final int[] sides = new int[MOST_MEN];
+        private final int[] grips = new int[MOST_MEN];
+        private final int[] wits = new int[MOST_MEN];
+        private final int[] says = new int[MOST_CLAUSES];
+        private final int[] gives0 = new int[MOST_CLAUSES];
+        private final int[] gives1 = new int[MOST_CLAUSES];
+        private final int[] froms = new int[MOST_WINDS];
+        private final int[] tos = new int[MOST_WINDS];
 
         void clear() {
-            fars[0] = 0;
-            fars[1] = 0;
+            setFars(0, 0);
             odds = 0;
             pot = 0;
             lines = 0;
@@ -973,6 +972,33 @@ public final class WristTreaty {
             return side == 0 ? fars[0] : fars[1];
         }
 
+        int sideOf(int man) {
+            return hasMan(man) ? sides[man] : NONE;
+        }
+
+        int gripOf(int man) {
+            return hasMan(man) ? grips[man] : NONE;
+        }
+
+        int witsOf(int man) {
+            return hasMan(man) ? wits[man] : NONE;
+        }
+
+        int lengthOf(int clause) {
+            return hasClause(clause) ? says[clause] : 0;
+        }
+
+        void setFars(int far0, int far1) {
+            fars[0] = far0;
+            fars[1] = far1;
+        }
+
+        void setGrip(int man, int strength) {
+            if (hasMan(man)) {
+                grips[man] = strength;
+            }
+        }
+
         void addMan(int side, int strength, int wit) {
             if (men < MOST_MEN) {
                 sides[men] = side;
@@ -1003,7 +1029,7 @@ public final class WristTreaty {
             if (beat > LAST_WINDY_BEAT) {
                 return false;
             }
-            for (int wind = 0; wind < winds; wind++) {
+            for (int wind = 0; wind < winds && wind < MOST_WINDS; wind++) {
                 if (isWithin(beat, froms[wind], tos[wind])) {
                     return true;
                 }
@@ -1188,8 +1214,7 @@ public final class WristTreaty {
             }
             switch (line) {
                 case GORGE:
-                    draft.fars[0] = numbers[0];
-                    draft.fars[1] = numbers[1];
+                    draft.setFars(numbers[0], numbers[1]);
                     draft.odds = numbers[2];
                     break;
                 case MAN:
@@ -1220,11 +1245,11 @@ public final class WristTreaty {
         }
 
         private void acceptNumber() {
-            int bounds = 3 * line + taken;
-            if (kind != NUMBER || !isWithin(bounds, 0, LOWS.length - 1)) {
+            if (kind != NUMBER || !isWithin(line, GORGE, POT) || !isWithin(taken, 0, 2)) {
                 fail(MISPLACED);
                 return;
             }
+            int bounds = 3 * line + taken;
             // A wind may not end ahead of its first beat.
             int low = line == WIND && taken == 1 ? numbers[0] : LOWS[bounds];
             if (!isWithin(value, low, HIGHS[bounds])) {
@@ -1439,8 +1464,8 @@ public final class WristTreaty {
 
     /** Rows of numbers, side by side in one array. */
     private static final class Slots {
-        final int[] sizes = new int[MOST_SLOTS];
-        final int[] widths = new int[MOST_SLOTS];
+        private final int[] sizes = new int[MOST_SLOTS];
+        private final int[] widths = new int[MOST_SLOTS];
         private final long[] numbers = new long[MOST_SLOTS * MOST_NUMBERS];
 
         Slots() {
@@ -1452,7 +1477,16 @@ public final class WristTreaty {
         }
 
         boolean isBare(int slot) {
-            return !has(slot) || sizes[slot] == NONE;
+            return sizeOf(slot) == NONE;
+        }
+
+        /** NONE: the slot has no row. */
+        int sizeOf(int slot) {
+            return has(slot) ? sizes[slot] : NONE;
+        }
+
+        int widthOf(int slot) {
+            return has(slot) ? widths[slot] : NONE;
         }
 
         int withRow() {
@@ -1476,7 +1510,7 @@ public final class WristTreaty {
         }
 
         boolean hasPart(int slot, int i, int n) {
-            return !isBare(slot) && isWithin(n, 0, sizes[slot]) && isWithin(i, 0, sizes[slot] - n);
+            return has(slot) && isWithin(n, 0, sizes[slot]) && isWithin(i, 0, sizes[slot] - n);
         }
 
         void put(int slot, int i, long v) {
@@ -1597,7 +1631,7 @@ public final class WristTreaty {
 
     /** Tries every way to go in pairs; with eight men there are 209 at most. */
     private static final class Pairing {
-        final int[] settled = new int[MOST_MEN];
+        private final int[] settled = new int[MOST_MEN];
         int greatestSum;
         int fairest;
         private final int[] tried = new int[MOST_MEN];
@@ -1608,13 +1642,17 @@ public final class WristTreaty {
             this.gorge = gorge;
         }
 
+        int partnerOf(int man) {
+            return isWithin(man, 0, MOST_MEN - 1) ? settled[man] : NONE;
+        }
+
         void settle() {
             Arrays.fill(tried, NONE);
             greatestSum = NONE;
             fairest = 0;
             int ofSide1 = 0;
             for (int man = 0; man < gorge.men; man++) {
-                ofSide1 += gorge.sides[man];
+                ofSide1 += gorge.sideOf(man);
             }
             mostPairs = Math.min(ofSide1, gorge.men - ofSide1);
             tryMan(0, 0, 0, LAST_BEAT);
@@ -1626,9 +1664,9 @@ public final class WristTreaty {
                 weigh(pairs, sum, smallest);
                 return;
             }
-            if (gorge.sides[man] == 0) {
+            if (gorge.sideOf(man) == 0) {
                 for (int other = 0; other < gorge.men; other++) {
-                    if (gorge.sides[other] == 1 && tried[other] == NONE) {
+                    if (gorge.sideOf(other) == 1 && tried[other] == NONE) {
                         int held = gorge.holdOrRefusal(man, other);
                         tried[man] = other;
                         tried[other] = man;
@@ -1667,7 +1705,7 @@ public final class WristTreaty {
         }
 
         boolean isRowOfClauses(Slots slots, int slot) {
-            for (int i = 0; i < slots.sizes[slot]; i++) {
+            for (int i = 0; i < slots.sizeOf(slot); i++) {
                 long number = slots.numberAt(slot, i);
                 if (number < 0 || number >= gorge.clauses) {
                     return false;
@@ -1678,7 +1716,7 @@ public final class WristTreaty {
 
         int meetingsFor(Slots slots, int slot, int hold) {
             int come = hold;
-            for (int i = 0; i < slots.sizes[slot]; i++) {
+            for (int i = 0; i < slots.sizeOf(slot); i++) {
                 int length = lengthOf(slots.numberAt(slot, i));
                 if (length > hold) {
                     return NONE;
@@ -1691,7 +1729,7 @@ public final class WristTreaty {
         int firstToWait(Slots slots, int slot, int hold) {
             int waiting = NONE;
             int come = hold;
-            for (int i = 0; i < slots.sizes[slot]; i++) {
+            for (int i = 0; i < slots.sizeOf(slot); i++) {
                 int length = lengthOf(slots.numberAt(slot, i));
                 if (length > hold) {
                     return NONE;
@@ -1732,7 +1770,7 @@ public final class WristTreaty {
             int low = longestClause();
             int high = 0;
             for (int clause = 0; clause < gorge.clauses; clause++) {
-                high += gorge.says[clause];
+                high += gorge.lengthOf(clause);
             }
             // More hold never takes more meetings, and the sum of all, 210 at most, says them in one.
             for (int halvings = 0; halvings < 10 && low < high; halvings++) {
@@ -1771,7 +1809,7 @@ public final class WristTreaty {
             int best = Integer.MAX_VALUE;
             for (int clause = 0; clause < gorge.clauses; clause++) {
                 if ((part >> clause & 1) == 1) {
-                    best = Math.min(best, said(reached[part & ~(1 << clause)], gorge.says[clause], hold));
+                    best = Math.min(best, said(reached[part & ~(1 << clause)], gorge.lengthOf(clause), hold));
                 }
             }
             return best;
@@ -1786,13 +1824,13 @@ public final class WristTreaty {
         }
 
         private int lengthOf(long clause) {
-            return clause >= 0 && clause < gorge.clauses ? gorge.says[(int) clause] : 0;
+            return clause >= 0 && clause < MOST_CLAUSES ? gorge.lengthOf((int) clause) : 0;
         }
 
         private int longestClause() {
             int longest = 0;
             for (int clause = 0; clause < gorge.clauses; clause++) {
-                longest = Math.max(longest, gorge.says[clause]);
+                longest = Math.max(longest, gorge.lengthOf(clause));
             }
             return longest;
         }
@@ -1924,9 +1962,9 @@ public final class WristTreaty {
             for (int clause = 0; clause < gorge.clauses; clause++) {
                 int bit = 1 << clause;
                 for (int set = bit; set < 2 * bit && set < MOST_SETS; set++) {
-                    lengths[set] = lengths[set - bit] + gorge.says[clause];
-                    worths0[set] = worths0[set - bit] + gorge.gives0[clause];
-                    worths1[set] = worths1[set - bit] + gorge.gives1[clause];
+                    lengths[set] = lengths[set - bit] + gorge.lengthOf(clause);
+                    worths0[set] = worths0[set - bit] + gorge.giftOf(clause, 0);
+                    worths1[set] = worths1[set - bit] + gorge.giftOf(clause, 1);
                 }
             }
         }
@@ -1949,10 +1987,10 @@ public final class WristTreaty {
         }
 
         boolean isTold(int slot) {
-            if (slots.sizes[slot] % 3 != 0) {
+            if (slots.sizeOf(slot) % 3 != 0) {
                 return false;
             }
-            for (int i = 0; i < slots.sizes[slot]; i += 3) {
+            for (int i = 0; i < slots.sizeOf(slot); i += 3) {
                 long held = slots.numberAt(slot, i + 2);
                 if (!isManOf(slots.numberAt(slot, i), 0) || !isManOf(slots.numberAt(slot, i + 1), 1)
                         || held < 0 || held > 99) {
@@ -1989,7 +2027,7 @@ public final class WristTreaty {
             int fewest = fitting;
             for (int man = 0; man < gorge.men; man++) {
                 for (int other = 0; other < gorge.men; other++) {
-                    if (gorge.sides[man] == 0 && gorge.sides[other] == 1) {
+                    if (gorge.sideOf(man) == 0 && gorge.sideOf(other) == 1) {
                         int worst = mostLeft(man, other);
                         if (worst < fewest) {
                             best = 10 * man + other;
@@ -2018,17 +2056,14 @@ public final class WristTreaty {
         }
 
         private boolean isManOf(long number, int side) {
-            if (number < 0 || number >= gorge.men || number >= MOST_MEN) {
-                return false;
-            }
-            return gorge.sides[(int) number] == side;
+            return number >= 0 && number < MOST_MEN && gorge.sideOf((int) number) == side;
         }
 
         private boolean agrees(int slot, int weak, int loss) {
-            if (!gorge.hasMan(weak) || !isWithin(loss, 1, gorge.grips[weak] - 1)) {
+            if (!isWithin(loss, 1, gorge.gripOf(weak) - 1)) {
                 return false;
             }
-            for (int i = 0; i < slots.sizes[slot]; i += 3) {
+            for (int i = 0; i < slots.sizeOf(slot); i += 3) {
                 int man = (int) slots.numberAt(slot, i);
                 int other = (int) slots.numberAt(slot, i + 1);
                 if (wearyHold(man, other, weak, loss) != slots.numberAt(slot, i + 2)) {
@@ -2039,11 +2074,8 @@ public final class WristTreaty {
         }
 
         private int wearyHold(int man, int other, int weak, int loss) {
-            if (!gorge.hasMan(man) || !gorge.hasMan(other)) {
-                return NONE;
-            }
-            int gripOfMan = gorge.grips[man] - (man == weak ? loss : 0);
-            int gripOfOther = gorge.grips[other] - (other == weak ? loss : 0);
+            int gripOfMan = gorge.gripOf(man) - (man == weak ? loss : 0);
+            int gripOfOther = gorge.gripOf(other) - (other == weak ? loss : 0);
             return gorge.holdByGrips(man, other, gripOfMan, gripOfOther);
         }
     }

@@ -111,6 +111,7 @@ public final class TextEdgesTest {
         CHECK.due("a greater one", read(FIRST + "pot 3;pot 5;", 3).count(3), 5);
         CHECK.due("a lesser one", read(FIRST + "pot 5;" + MAN + "pot 3;", 4).count(3), 3);
         CHECK.due("0", read(FIRST + "pot 5;pot 0;", 3).count(3), 0);
+        CHECK.due("behind what takes", read(FIRST + "clause says 1 gives 1 takes 5;pot 3;", 3).count(3), 3);
     }
 
     private static void numberedAsTheyStand() {
