@@ -904,13 +904,14 @@ public final class WristTreaty {
 
     /** A gorge as its text tells it; without lines there is none. */
     private static final class Gorge {
-        private final int[] fars = new int[2];
         int odds;
         int pot;
         int lines;
         int men;
         int clauses;
         int winds;
+        private int far0;
+        private int far1;
         private final int[] sides = new int[MOST_MEN];
         private final int[] grips = new int[MOST_MEN];
         private final int[] wits = new int[MOST_MEN];
@@ -931,13 +932,13 @@ public final class WristTreaty {
         }
 
         void copyFrom(Gorge other) {
+            setFars(other.far0, other.far1);
             odds = other.odds;
             pot = other.pot;
             lines = other.lines;
             men = other.men;
             clauses = other.clauses;
             winds = other.winds;
-            System.arraycopy(other.fars, 0, fars, 0, 2);
             System.arraycopy(other.sides, 0, sides, 0, MOST_MEN);
             System.arraycopy(other.grips, 0, grips, 0, MOST_MEN);
             System.arraycopy(other.wits, 0, wits, 0, MOST_MEN);
@@ -969,7 +970,7 @@ public final class WristTreaty {
         }
 
         int farOf(int side) {
-            return side == 0 ? fars[0] : fars[1];
+            return side == 0 ? far0 : far1;
         }
 
         int sideOf(int man) {
@@ -988,9 +989,9 @@ public final class WristTreaty {
             return hasClause(clause) ? says[clause] : 0;
         }
 
-        void setFars(int far0, int far1) {
-            fars[0] = far0;
-            fars[1] = far1;
+        void setFars(int ofSide0, int ofSide1) {
+            far0 = ofSide0;
+            far1 = ofSide1;
         }
 
         void setGrip(int man, int strength) {
