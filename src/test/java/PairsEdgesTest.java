@@ -16,6 +16,7 @@ public final class PairsEdgesTest {
         firstOfSeveral();
         eightMen();
         sevenAgainstOne();
+        oneAgainstTwo();
         noneIfOnlyWithout();
         leastPartnerStillSo();
         asManyAsCan();
@@ -161,6 +162,20 @@ public final class PairsEdgesTest {
         CHECK.due("fair()", x.fair(), 5);
     }
 
+    private static void oneAgainstTwo() {
+        WristTreaty x = Check.of(FIRST + man(0, 5, 0) + man(1, 5, 0) + man(1, 5, 0));
+        CHECK.due("match()", x.match(), 5);
+        CHECK.due("matched(0)", x.matched(0), 1);
+        CHECK.due("matched(1)", x.matched(1), 0);
+        CHECK.due("matched(2)", x.matched(2), -1);
+        CHECK.due("loners()", x.loners(), 4);
+        x.grip(2, 6);
+        x.grip(0, 6);
+        CHECK.due("matched(0)", x.matched(0), 2);
+        CHECK.due("matched(1)", x.matched(1), -1);
+        CHECK.due("loners()", x.loners(), 2);
+    }
+
     private static void noneIfOnlyWithout() {
         WristTreaty x = Check.of(FIRST + man(0, 5, 0) + man(0, 6, 0) + man(1, 6, 0));
         CHECK.due("matched(0)", x.matched(0), -1);
@@ -201,14 +216,19 @@ public final class PairsEdgesTest {
         for (int no : new int[] {-1, 21, Integer.MIN_VALUE, Integer.MAX_VALUE}) {
             CHECK.due("resin(0, 1, " + no + ")", x.resin(0, 1, no), -2);
         }
-        CHECK.due("none given", x.resin(0, 1, 0), 7);
-        CHECK.due("one helps nobody", x.resin(0, 1, 1), 7);
-        CHECK.due("one each", x.resin(0, 1, 2), 9);
-        CHECK.due("all of the pot", x.resin(0, 1, 20), 27);
+        int[] given = {0, 1, 2, 20};
+        int[] alike = {7, 7, 9, 27};
+        for (int i = 0; i < given.length; i++) {
+            CHECK.due("of one grip, " + given[i], x.resin(0, 1, given[i]), alike[i]);
+            CHECK.due("of one grip, " + given[i], x.resin(1, 0, given[i]), alike[i]);
+        }
         x = Check.of(FIRST + man(0, 1, 0) + man(1, 30, 0) + "pot 20;");
-        CHECK.due("all to one", x.resin(0, 1, 14), 29);
-        CHECK.due("no more than the other one's", x.resin(0, 1, 15), 30);
-        CHECK.due("both beyond 30", x.resin(0, 1, 20), 35);
+        int[] poured = {0, 1, 14, 15, 16, 17, 20};
+        int[] unlike = {1, 3, 29, 30, 31, 32, 35};
+        for (int i = 0; i < poured.length; i++) {
+            CHECK.due("all to the weak one, then to both, " + poured[i], x.resin(0, 1, poured[i]), unlike[i]);
+            CHECK.due("all to the weak one, then to both, " + poured[i], x.resin(1, 0, poured[i]), unlike[i]);
+        }
         x = Check.of(FIRST + man(0, 1, 0) + man(1, 30, 0));
         CHECK.due("an empty pot, 0", x.resin(0, 1, 0), 1);
         CHECK.due("an empty pot, 1", x.resin(0, 1, 1), -2);

@@ -10,6 +10,7 @@ public final class TiredEdgesTest {
         noSuchNumbers();
         notThreeEach();
         noSuchMan();
+        eightMen();
         emptyRow();
         fullRow();
         leastAndGreatestLoss();
@@ -110,6 +111,19 @@ public final class TiredEdgesTest {
         for (int man = 0; man < 4; man++) {
             CHECK.due("by(0, " + man + ")", x.by(0, man), least[man]);
         }
+    }
+
+    private static void eightMen() {
+        WristTreaty x = Check.of(FIRST + man(0, 30, 0).repeat(4) + man(1, 30, 0).repeat(4));
+        Check.row(x, 0, 3, 7, 30);
+        CHECK.due("fits(0)", x.fits(0), 6 * 29);
+        CHECK.due("tired(0)", x.tired(0), 0x77);
+        CHECK.due("by(0, 7)", x.by(0, 7), -1);
+        CHECK.due("by(0, 6)", x.by(0, 6), 1);
+        CHECK.due("by(0, 8)", x.by(0, 8), -2);
+        Check.row(x, 0, 3, 7, 1, 2, 7, 1);
+        told(x, 0, 1, 128, -1, -1);
+        CHECK.due("by(0, 7)", x.by(0, 7), 29);
     }
 
     private static void emptyRow() {
