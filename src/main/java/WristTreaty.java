@@ -1697,6 +1697,7 @@ public final class WristTreaty {
      */
     private static final class Speech {
         private static final int MEETING = 1000;
+        private static final int BEYOND_ALL = (MOST_CLAUSES + 1) * MEETING;
 
         private final int[] reached = new int[MOST_SETS];
         private final Gorge gorge;
@@ -1807,7 +1808,7 @@ public final class WristTreaty {
         }
 
         private int leastReached(int part, int hold) {
-            int best = Integer.MAX_VALUE;
+            int best = BEYOND_ALL;
             for (int clause = 0; clause < gorge.clauses; clause++) {
                 if ((part >> clause & 1) == 1) {
                     best = Math.min(best, said(reached[part & ~(1 << clause)], gorge.lengthOf(clause), hold));

@@ -9,6 +9,7 @@ import java.nio.file.Path;
 import java.util.Arrays;
 import java.util.Set;
 import java.util.TreeSet;
+import java.util.regex.Matcher;
 import java.util.regex.Pattern;
 import java.util.stream.Collectors;
 
@@ -35,6 +36,8 @@ public final class RulesTest {
         nestedClasses();
         words();
         newObjects();
+        library();
+        shortMethods();
         CHECK.finish();
     }
 
@@ -111,6 +114,35 @@ public final class RulesTest {
         isTrue("Arrays alone is brought in", code.lines().filter(l -> l.startsWith("import")).count() == 1
                 && code.contains("import java.util.Arrays;"));
         isTrue("signs 1 to 127 alone", code.chars().allMatch(c -> c > 0 && c < 128));
+    }
+
+    /** Of the library only what rule 4 lists, a class's constants being no functions. */
+    private static void library() throws IOException {
+        Set<String> listed = Set.of("Integer.bitCount", "Math.min", "Math.max", "Math.floorMod", "Arrays.fill", "System.arraycopy");
+        Matcher used = Pattern.compile("\\b(Integer|Long|Short|Byte|Character|Math|Arrays|System|String|List)\\.\\w+")
+                .matcher(code().replaceAll("(?m)^import.*$", ""));
+        while (used.find()) {
+            isTrue(used.group() + " is listed", listed.contains(used.group()));
+        }
+    }
+
+    /** A method ends with the first brace that stands as far in as its own line. */
+    private static void shortMethods() throws IOException {
+        String indent = "";
+        int lines = 0;
+        String method = "";
+        for (String line : Files.readAllLines(SOURCE)) {
+            if (method.isEmpty() && line.matches(" +[\\w\\[\\] ]+\\([^)]*\\) \\{") && !line.matches(" +(if|for|while|switch) .*")) {
+                method = line.trim();
+                indent = line.substring(0, line.indexOf(method));
+                lines = 0;
+            }
+            lines++;
+            if (!method.isEmpty() && line.equals(indent + "}")) {
+                isTrue(method + " is short", lines <= 60);
+                method = "";
+            }
+        }
     }
 
     /** Rows are made with the object and used again: a new stands in a field's line or in the constructor alone. */
